@@ -621,7 +621,7 @@ public final class MadeLand {
             pool.put(start, count);
             reached.put(0, start);
             int found = 1;
-            for (int i = 0; i < found; i++) {
+            for (int i = 0; i < found && i < MOST_PLACES; i++) {
                 int place = reached.at(i);
                 for (int edge = 0; edge < Terrain.EDGES; edge++) {
                     int other = land.beside(place, edge);
