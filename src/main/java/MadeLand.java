@@ -498,6 +498,9 @@ public final class MadeLand {
 
     /** Where the water stands, where it runs to, and what each place is by it. */
     private static final class Water {
+        /** Above every level. */
+        private static final int NO_LEVEL = 1000000;
+
         private final Row level = new Row(MOST_PLACES);
         private final Row down = new Row(MOST_PLACES);
         private final Row flow = new Row(MOST_PLACES);
@@ -512,7 +515,7 @@ public final class MadeLand {
             taken = 0;
             heap.empty();
             turn.fill(NONE);
-            leastBeside.fill(Integer.MAX_VALUE);
+            leastBeside.fill(NO_LEVEL);
             takeOutlets(land, heap, sea);
             takeOthers(land, heap);
             gatherFlow(land);
@@ -711,6 +714,8 @@ public final class MadeLand {
     /** What ways to each town cost, and the net of roads. */
     private static final class Network {
         private static final int PLAIN_STEP = 10;
+        /** Above the cost of every way. */
+        private static final int NO_COST = 1000000000;
 
         /** What the cheapest way from a place to town t costs stands at MOST_PLACES t + place; NONE: there is no way. */
         private final Row costs = new Row(MOST_TOWNS * MOST_PLACES);
@@ -808,7 +813,7 @@ public final class MadeLand {
         private void joinCheapest(Settlements settlements) {
             int first = NONE;
             int second = NONE;
-            int least = Integer.MAX_VALUE;
+            int least = NO_COST;
             for (int a = 0; a < settlements.count; a++) {
                 for (int b = 0; b < settlements.count; b++) {
                     int cost = costOf(settlements.place.at(a), b);
