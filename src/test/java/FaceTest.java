@@ -16,7 +16,9 @@ public final class FaceTest {
             "towns(int)", "town(int)", "cost(int,int)", "way(int,int,int)", "net(int)", "roads(int)", "told(int)"));
     private static final Set<String> CONSTANTS = new TreeSet<>(Arrays.asList("NONE", "UNKNOWN", "OUTSIDE", "FULL"));
     private static final String[] RULED_OUT = {"catch", "throw", "finally", "synchronized", "assert", "->", "::",
-            "equals(", "hashCode", "toString", "Exact", "System.", "Random", "Object", "double", "float"};
+            "equals(", "hashCode", "toString", "Exact", "System.", "Random", "Object", "double", "float",
+            "MAX_VALUE", "MIN_VALUE", "instanceof", "String", "Iterator", "List", "% "};
+    private static final int MOST_CLASSES = 12, MOST_FIELDS = 20, MOST_PARAMETERS = 7, MOST_LINES = 60;
 
     public static void main(String[] args) throws IOException {
         Checks checks = new Checks();
@@ -26,7 +28,10 @@ public final class FaceTest {
         checks.due("public constructors", MadeLand.class.getConstructors().length, 1);
         checkMethods(checks);
         checkFields(checks);
+        checkClasses(checks);
         checkSource(checks);
+        checkMaking(checks);
+        checkLengths(checks);
         checks.end();
     }
 
@@ -76,6 +81,49 @@ public final class FaceTest {
         checks.due("UNKNOWN", MadeLand.UNKNOWN, -1);
         checks.due("OUTSIDE", MadeLand.OUTSIDE, -2);
         checks.due("FULL", MadeLand.FULL, -4);
+    }
+
+    /** Rules 2, 5 and 11 for the classes inside. */
+    private static void checkClasses(Checks checks) {
+        Class<?>[] inside = MadeLand.class.getDeclaredClasses();
+        checks.due("not too many classes", inside.length < MOST_CLASSES ? 1 : 0, 1);
+        for (Class<?> one : inside) {
+            checks.due(one + " is private and static", one.getModifiers() & (Modifier.PRIVATE | Modifier.STATIC),
+                    Modifier.PRIVATE | Modifier.STATIC);
+            int fields = 0;
+            for (Field field : one.getDeclaredFields()) {
+                boolean isStatic = Modifier.isStatic(field.getModifiers());
+                fields += isStatic ? 0 : 1;
+                checks.due(field + " is final, if static", isStatic && !Modifier.isFinal(field.getModifiers()) ? 1 : 0, 0);
+            }
+            checks.due("not too many fields in " + one, fields <= MOST_FIELDS ? 1 : 0, 1);
+            for (Method method : one.getDeclaredMethods()) {
+                checks.due("not too many parameters: " + method, method.getParameterCount() <= MOST_PARAMETERS ? 1 : 0, 1);
+            }
+        }
+    }
+
+    /** Rows are made with the object alone: no call makes anything, however often it comes. */
+    private static void checkMaking(Checks checks) throws IOException {
+        for (String line : Files.readAllLines(Path.of("src/main/java/MadeLand.java"))) {
+            String text = line.trim();
+            if (text.contains("new ")) {
+                checks.due("made with the object: " + text,
+                        text.startsWith("private final ") || text.startsWith("cells = new int[") ? 1 : 0, 1);
+            }
+        }
+    }
+
+    /** A member, of the class or of one inside it, begins at the indentation of four or of eight. */
+    private static void checkLengths(Checks checks) throws IOException {
+        int length = 0;
+        int greatest = 0;
+        for (String line : Files.readAllLines(Path.of("src/main/java/MadeLand.java"))) {
+            boolean isMember = line.matches("( {4}| {8})[a-z].*\\{");
+            length = isMember ? 1 : length + 1;
+            greatest = line.matches("( {4}| {8})\\}") ? Math.max(greatest, length) : greatest;
+        }
+        checks.due("a method's lines are few: " + greatest, greatest > 1 && greatest <= MOST_LINES ? 1 : 0, 1);
     }
 
     private static void checkSource(Checks checks) throws IOException {
